@@ -1,0 +1,80 @@
+import java.nio.charset.StandardCharsets;
+
+/** What the project's tests share: answers compared with those that are due, texts put into ROWS. */
+final class Due {
+    private static int asked = 0;
+    private static int wrong = 0;
+
+    private Due() {
+    }
+
+    static void is(String call, long got, long want) {
+        asked++;
+        if (got != want) {
+            wrong++;
+            System.out.println(call + " answered " + got + ", due is " + want);
+        }
+    }
+
+    /** The answer is due, and just one REFUSAL more of its number, none of another. */
+    static void refused(NoArmsCrossed x, String call, java.util.function.IntSupplier run, int want) {
+        int[] before = refusals(x);
+        is(call, run.getAsInt(), want);
+        int counted = want < -10 ? want + 10 : want;
+        before[-counted]++;
+        int[] after = refusals(x);
+        for (int no = 1; no <= 7; no++) {
+            is("status(" + (10 + no) + ") after " + call, after[no], before[no]);
+        }
+    }
+
+    /** The answer is due, and no REFUSAL more. */
+    static void fine(NoArmsCrossed x, String call, java.util.function.IntSupplier run, int want) {
+        int[] before = refusals(x);
+        is(call, run.getAsInt(), want);
+        int[] after = refusals(x);
+        for (int no = 1; no <= 7; no++) {
+            is("status(" + (10 + no) + ") after " + call, after[no], before[no]);
+        }
+    }
+
+    private static int[] refusals(NoArmsCrossed x) {
+        int[] counts = new int[8];
+        for (int no = 1; no <= 7; no++) {
+            counts[no] = x.status(10 + no);
+        }
+        return counts;
+    }
+
+    static void text(NoArmsCrossed x, int shelf, int sort, String text) {
+        byte[] letters = text.getBytes(StandardCharsets.ISO_8859_1);
+        is("row(" + shelf + ") for " + text, x.row(shelf, sort, letters.length), 1);
+        for (int i = 0; i < letters.length; i++) {
+            x.set(shelf, i, letters[i]);
+        }
+    }
+
+    static void numbers(NoArmsCrossed x, int shelf, int sort, long... numbers) {
+        is("row(" + shelf + ")", x.row(shelf, sort, numbers.length), 1);
+        for (int i = 0; i < numbers.length; i++) {
+            x.set(shelf, i, numbers[i]);
+        }
+    }
+
+    /** An object with so many SEATS and plain GUESTS in SEATS 0, 1, .. */
+    static NoArmsCrossed plain(int seats, int guests) {
+        NoArmsCrossed x = new NoArmsCrossed();
+        is("seats(" + seats + ")", x.seats(seats), 8);
+        for (int g = 0; g < guests; g++) {
+            is("guest(0, " + g + ", 0)", x.guest(0, g, 0), g);
+        }
+        return x;
+    }
+
+    static void end(String test) {
+        System.out.println(test + ": " + asked + " answers, " + wrong + " not as due");
+        if (wrong != 0 || asked == 0) {
+            System.exit(1);
+        }
+    }
+}
