@@ -902,12 +902,9 @@ public final class NoArmsCrossed {
         }
 
         int distance(int guest, int other) {
-            int seats = Math.abs(places[guest] - places[other]);
-            return Math.min(seats, size - seats);
-        }
-
-        private boolean reaches(int guest, int other) {
-            return !isOf(guest, SHORT) || distance(guest, other) <= amounts[guest] + 1;
+            int up = places[guest] - places[other];
+            int seats = up < 0 ? -up : up;
+            return 2 * seats <= size ? seats : size - seats;
         }
 
         boolean mayClink(int guest, int other) {
@@ -920,7 +917,11 @@ public final class NoArmsCrossed {
             if (isOf(guest, SHY) && isOf(other, SHY)) {
                 return false;
             }
-            return reaches(guest, other) && reaches(other, guest);
+            int seats = distance(guest, other);
+            if (isOf(guest, SHORT) && seats > amounts[guest] + 1) {
+                return false;
+            }
+            return !isOf(other, SHORT) || seats <= amounts[other] + 1;
         }
 
         int slownessOf(int guest) {
@@ -978,11 +979,13 @@ public final class NoArmsCrossed {
         }
 
         int wantedPairs() {
-            int ends = 0;
-            for (int g = 0; g < count; g++) {
-                ends += wantsOf(g);
+            int pairs = 0;
+            for (int p = 0; p < count; p++) {
+                for (int q = p + 1; q < count; q++) {
+                    pairs += isWanted(p, q) ? 1 : 0;
+                }
             }
-            return ends / 2;
+            return pairs;
         }
 
         int hadPairs() {
@@ -1239,8 +1242,8 @@ public final class NoArmsCrossed {
                 return 1;
             }
             int best = 1 + parts[rest];
-            for (int some = rest & (rest - 1); some > 0; some = rest & (some - 1)) {
-                if (parts[bit(last) | some] == 1) {
+            for (int some = 1; some < rest; some++) {
+                if ((some & ~rest) == 0 && parts[bit(last) | some] == 1) {
                     best = Math.min(best, 1 + parts[rest & ~some]);
                 }
             }
