@@ -1311,9 +1311,9 @@ public final class NoArmsCrossed {
         private boolean readItem(Shelf text, Table table) {
             switch (text.number(at)) {
                 case 's':
-                    return table.count == 0 && readWord(text, "seats") && readSeats(text, table);
+                    return readWordIf(table.count == 0, text, "seats") && readSeats(text, table);
                 case 'g':
-                    return !table.isFull() && readWord(text, "guest") && readGuest(text, table);
+                    return readWordIf(!table.isFull(), text, "guest") && readGuest(text, table);
                 case 'b':
                     return readWord(text, "bar") && readPair(text, table, table.barredBits);
                 case 'h':
@@ -1325,6 +1325,18 @@ public final class NoArmsCrossed {
                 default:
                     return false;
             }
+        }
+
+        /** What the table doesn't let be told is at FAULT as a word, so only once all of it is there. */
+        private boolean readWordIf(boolean lets, Shelf text, String word) {
+            int first = at;
+            if (!readWord(text, word)) {
+                return false;
+            }
+            if (!lets) {
+                at = first;
+            }
+            return lets;
         }
 
         private boolean readWord(Shelf text, String word) {

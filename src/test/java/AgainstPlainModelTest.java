@@ -355,8 +355,9 @@ public final class AgainstPlainModelTest {
                 text.setCharAt(at, c);
             }
         }
-        if (any(6) == 0) {
-            text.setLength(any(text.length() + 1));
+        if (any(4) == 0) {
+            int end = any(2) == 0 ? text.length() : text.lastIndexOf(";") + 1 + 6;
+            text.setLength(any(Math.min(end, text.length()) + 1));
         }
         long[] letters = new long[200];
         for (int i = 0; i < text.length() && i < 160; i++) {

@@ -615,19 +615,20 @@ final class PlainModel {
             int word = -1;
             int furthest = at;
             for (int w = 0; w < WORDS.length; w++) {
-                boolean fits = w == 0 ? t.n() == 0 : w != 1 || t.n() < 10;
-                if (fits) {
-                    int same = 0;
-                    while (same < WORDS[w].length() && at + same < text.length()
-                        && text.charAt(at + same) == WORDS[w].charAt(same)) {
-                        same++;
-                    }
-                    furthest = Math.max(furthest, at + same);
-                    word = same == WORDS[w].length() ? w : word;
+                int same = 0;
+                while (same < WORDS[w].length() && at + same < text.length()
+                    && text.charAt(at + same) == WORDS[w].charAt(same)) {
+                    same++;
                 }
+                furthest = Math.max(furthest, at + same);
+                word = same == WORDS[w].length() ? w : word;
             }
             if (word < 0) {
                 return furthest;
+            }
+            boolean canBeTold = word == 0 ? t.n() == 0 : word != 1 || t.n() < 10;
+            if (!canBeTold) {
+                return at;
             }
             at = furthest;
             List<Integer> numbers = new ArrayList<>();

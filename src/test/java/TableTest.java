@@ -13,6 +13,7 @@ public final class TableTest {
         faultsOfWords();
         faultsOfNumbers();
         faultsOverGuests();
+        faultsOfWordsThatCantBeTold();
         faultsTellNothing();
         faultOfLatest();
         sortsOfTexts();
@@ -268,6 +269,43 @@ public final class TableTest {
         Due.is("SEAT", x.guestOf(8, 1), 9);
         NoArmsCrossed y = Due.plain(3, 3);
         faultAt(y, "guest 0 2 0", 8);
+    }
+
+    /** Its word is at FAULT, but only where the whole word is there. */
+    private static void faultsOfWordsThatCantBeTold() {
+        NoArmsCrossed x = Due.plain(8, 1);
+        faultsOfWordThatCantBeTold(x, "seats", "5");
+        NoArmsCrossed full = Due.plain(12, 10);
+        faultsOfWordThatCantBeTold(full, "seats", "12");
+        faultsOfWordThatCantBeTold(full, "guest", "0 10 0");
+        NoArmsCrossed nine = Due.plain(12, 9);
+        faultAt(nine, "guest 0 9 0;g", 13);
+        faultAt(nine, "guest 0 9 0;guess", 16);
+        faultAt(nine, "guest 0 9 0;guest", 12);
+        faultAt(nine, "guest 0 9 0;guest 0 10 0", 12);
+        faultAt("guest 0 0 0;s", 13);
+        faultAt("guest 0 0 0;sat", 13);
+        faultAt("guest 0 0 0;seats", 12);
+        faultAt("guest 0 0 0;seats x", 12);
+    }
+
+    private static void faultsOfWordThatCantBeTold(NoArmsCrossed x, String word, String numbers) {
+        for (String ahead : new String[] {"", "eyes 1;"}) {
+            int at = ahead.length();
+            for (int letters = 1; letters < word.length(); letters++) {
+                String part = ahead + word.substring(0, letters);
+                faultAt(x, part, at + letters);
+                faultAt(x, part + "x", at + letters);
+                faultAt(x, part + " " + numbers, at + letters);
+            }
+            faultAt(x, ahead + word, at);
+            faultAt(x, ahead + word + "x", at);
+            faultAt(x, ahead + word + " ", at);
+            faultAt(x, ahead + word + " x", at);
+            faultAt(x, ahead + word + " " + numbers, at);
+            faultAt(x, ahead + word + " " + numbers + ";eyes 1", at);
+        }
+        Due.is("EYES", x.status(5), 0);
     }
 
     private static void faultsTellNothing() {
