@@ -237,6 +237,9 @@ public final class ClinksBoundaryTest {
         Boundary.test(sentence, THREE_HAD, list("most"));
         Boundary.test(sentence, Boundary.plain(12, 10), list("most", 1, 203, 405, 607, 809));
         Boundary.test(sentence, Boundary.plain(12, 9), list("most", 1, 203, 405, 607));
+        Boundary.test(sentence, Boundary.plain(12, 10), "most(-1) = 5", "most(4) = 809", "goes(45)", "most(-1) = 0",
+            "most(0) ! -5");
+        Boundary.test(sentence, Boundary.plain(3, 2), "most(-1) = 1", "bar(0, 1, true)", "most(-1) = 0", "most(0) ! -5");
         String atOnce = "no GUEST in two, none two of which CROSS";
         Boundary.test(atOnce, Boundary.plain(3, 3), list("most", 1));
         Boundary.test(atOnce, Boundary.only(4, 1, 2, 3), list("most", 1));
@@ -333,6 +336,10 @@ public final class ClinksBoundaryTest {
         Boundary.test(sentence, Boundary.plain(3, 2), list("roundOf(0,", 1), "roundOf(1, -1) ! -5");
         Boundary.test(sentence, "roundOf(0, -1) ! -5", "roundOf(0, 0) ! -5");
         Boundary.test(sentence, THREE_HAD, "roundOf(0, -1) ! -5", "roundOf(0, 0) ! -5");
+        Boundary.test(sentence, Boundary.only(6, 3, 5, 102, 304), list("roundOf(0,", 5, 102, 304),
+            list("roundOf(1,", 3), "roundOf(2, -1) ! -5");
+        Boundary.test(sentence, Boundary.only(6, 3, 5, 102, 304), "rounds() = 2", "had(0, 5, true)", "had(1, 2, true)",
+            "had(3, 4, true)", "rounds() = 1", list("roundOf(0,", 3), "roundOf(1, -1) ! -5", "roundOf(1, 0) ! -5");
         Boundary.test(sentence, Boundary.plain(4, 4), "goes(3)", list("roundOf(0,", 103), "roundOf(1, -1) ! -5");
         Boundary.test(BEYOND, Boundary.rich(), "roundOf(45, 45) ! -5");
     }

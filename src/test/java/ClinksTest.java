@@ -43,13 +43,8 @@ public final class ClinksTest {
 
     /** Promise 18. */
     private static void may() {
-        NoArmsCrossed x = new NoArmsCrossed();
-        x.seats(12);
-        int[] kinds = {0, 3, 3, 5, 6, 4, 2};
-        for (int g = 0; g < kinds.length; g++) {
-            x.guest(kinds[g], g, 9);
-        }
         for (int p = 0; p < 7; p++) {
+            NoArmsCrossed x = sevenKinds();
             for (int q = 0; q < 7; q++) {
                 int one = p;
                 int two = q;
@@ -59,11 +54,22 @@ public final class ClinksTest {
                 }
             }
         }
+        NoArmsCrossed x = sevenKinds();
         x.bar(4, 5, true);
         Due.is("may, BARRED", x.may(5, 4), 0);
         x.had(0, 1, true);
         Due.is("may, HAD", x.may(0, 1), 1);
         pairRefused(x, "may", x::may);
+    }
+
+    private static NoArmsCrossed sevenKinds() {
+        NoArmsCrossed x = new NoArmsCrossed();
+        x.seats(12);
+        int[] kinds = {0, 3, 3, 5, 6, 4, 2};
+        for (int g = 0; g < kinds.length; g++) {
+            x.guest(kinds[g], g, 9);
+        }
+        return x;
     }
 
     /** A SHORT one reaches a and 1, from his side; a SHY one is SHORT. */

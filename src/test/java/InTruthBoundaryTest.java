@@ -21,6 +21,7 @@ public final class InTruthBoundaryTest {
         actWraps();
         actOfNone();
         trace();
+        bodies();
         image();
         restore();
         restoreShelves();
@@ -80,6 +81,10 @@ public final class InTruthBoundaryTest {
         Boundary.test(sentence, THREE_HAD, "goes(45) = 0 same");
         Boundary.test(sentence, Boundary.only(10, 5, 106, 207, 308, 409), "goes(2) = 2", "wanted(-1) = 3", "wanted(0) = 207",
             "goes(45) = 3", "status(4) = 5");
+        // only so many as are told, whatever was asked ahead
+        Boundary.test(sentence, TEN, "rounds() = 13", "goes(1) = 5", "status(3) = 5", "status(4) = 1", "wanted(-1) = 40");
+        Boundary.test(sentence, Boundary.only(6, 3, 5, 102, 304), "rounds() = 2", "had(0, 5, true)", "had(1, 2, true)",
+            "had(3, 4, true)", "goes(45) = 1", "status(3) = 1", "status(4) = 1", "wanted(-1) = 0");
         // rounds: 0 1 with 2 3, 0 3 with 1 2, 0 2, 1 3
         Boundary.test("each as long as its longest clink", "guest(0, 0, 9)", "guest(2, 1, 2)", "guest(2, 2, 5)",
             "guest(0, 3, 9)", "goes(1) = 2", "status(4) = 6", "goes(1) = 2", "status(4) = 12", "goes(1) = 1",
@@ -283,6 +288,42 @@ public final class InTruthBoundaryTest {
         Boundary.test(latest, host, "image()", "act(0, 0, 5)", "restore()", "status(7) = 3", "trace(0) = 70",
             "trace(3) = -1");
         Boundary.test(latest, host, "leaves()", "clink(0, 1) ! -1", "status(7) = 10", "trace(0) = 50", "trace(9) = 10");
+    }
+
+    /** GUEST 1 of a KIND, his a 3, with x 5: the answer and the bodies that ran. */
+    private static void body(String ofDocument, int kind, int act, int due, int... bodies) {
+        StringBuilder script = new StringBuilder("guest(0, 0, 0)\nguest(" + kind + ", 1, 3)\n");
+        script.append("act(1, ").append(act).append(", 5) = ").append(due).append('\n');
+        script.append("status(7) = ").append(bodies.length).append('\n');
+        for (int i = 0; i < bodies.length; i++) {
+            script.append("trace(").append(i).append(") = ").append(bodies[i]).append('\n');
+        }
+        Boundary.test(ofDocument, script.toString(), "trace(" + bodies.length + ") = -1");
+    }
+
+    private static void bodies() {
+        body("GUEST: 10 clinks: x + m.", 0, 0, 6, 10);
+        body("11 waits: clinks(x) * 2.", 0, 1, 12, 11, 10);
+        body("12 looks: waits(x) ^ clinks(x - k).", 0, 2, 15, 12, 11, 10, 10);
+        body("SHORT: 20 clinks: super.clinks(x) + k.", 1, 0, 9, 20, 10);
+        body("SLOW: 30 waits: super.waits(x) * 3.", 2, 1, 36, 30, 11, 10);
+        body("SHY: 40 waits: super.waits(x + 1).", 3, 1, 20, 40, 11, 20, 10);
+        body("LEFTY: 50 looks: -super.looks(x).", 4, 2, -8, 50, 12, 11, 51, 10, 51, 10);
+        body("51 clinks: super.clinks(x) - m.", 4, 0, 5, 51, 10);
+        body("SOBER: 60 looks: super.looks(x) ^ 5.", 5, 2, 34, 60, 12, 30, 11, 10, 10);
+        body("HOST: 70 clinks: super.clinks(x) * 2.", 6, 0, 10, 70, 51, 10);
+        body("71 waits: super.waits(x - k).", 6, 1, 8, 71, 11, 70, 51, 10);
+        String dispatched = "the body of the GUEST's KIND, or of the next KIND above that has one";
+        body(dispatched, 1, 1, 18, 11, 20, 10);
+        body(dispatched, 1, 2, 20, 12, 11, 20, 10, 20, 10);
+        body(dispatched, 2, 0, 6, 10);
+        body(dispatched, 2, 2, 39, 12, 30, 11, 10, 10);
+        body(dispatched, 3, 0, 9, 20, 10);
+        body(dispatched, 3, 2, 18, 12, 40, 11, 20, 10, 20, 10);
+        body(dispatched, 4, 1, 10, 11, 51, 10);
+        body(dispatched, 5, 0, 6, 10);
+        body(dispatched, 5, 1, 36, 30, 11, 10);
+        body("in the order in which they began; the first 20 are kept", 6, 2, -12, 50, 12, 71, 11, 70, 51, 10, 70, 51, 10);
     }
 
     private static void image() {

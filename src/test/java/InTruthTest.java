@@ -224,12 +224,16 @@ public final class InTruthTest {
         }
     }
 
-    /** Promise 44. */
-    private static void trace() {
+    private static NoArmsCrossed sevenKinds() {
         NoArmsCrossed x = new NoArmsCrossed();
         for (int kind = 0; kind < 7; kind++) {
             x.guest(kind, kind, 1);
         }
+        return x;
+    }
+
+    /** Promise 44. */
+    private static void trace() {
         int[][][] due = {
             {{10}, {11, 10}, {12, 11, 10, 10}},
             {{20, 10}, {11, 20, 10}, {12, 11, 20, 10, 20, 10}},
@@ -240,6 +244,7 @@ public final class InTruthTest {
             {{70, 51, 10}, {71, 11, 70, 51, 10}, {50, 12, 71, 11, 70, 51, 10, 70, 51, 10}},
         };
         for (int g = 0; g < 7; g++) {
+            NoArmsCrossed x = sevenKinds();
             for (int a = 0; a < 3; a++) {
                 x.act(g, a, 3);
                 Due.is("bodies", x.status(7), due[g][a].length);
@@ -250,6 +255,8 @@ public final class InTruthTest {
                 Due.fine(x, "trace behind the last", () -> x.trace(behind), -1);
             }
         }
+        NoArmsCrossed x = sevenKinds();
+        x.act(6, 2, 3);
         for (int i : new int[] {-1, 10, 19, 20, 21, Integer.MAX_VALUE, Integer.MIN_VALUE}) {
             Due.fine(x, "trace(" + i + ")", () -> x.trace(i), -1);
         }

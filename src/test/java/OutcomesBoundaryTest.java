@@ -92,6 +92,9 @@ public final class OutcomesBoundaryTest {
         Boundary.test(lasts, four, "lasts(0) = 21");
         Boundary.test(alone, four, "lasts(1) = 25");
         Boundary.test(lasts, four, "goes(1)", "lasts(0) = 15", "lasts(1) = 16", "goes(45)", "lasts(0) = 0", "lasts(1) = 0");
+        // nothing is left of what was asked ahead
+        Boundary.test(lasts, Boundary.only(6, 3, 5, 102, 304), "lasts(0) = 2", "had(0, 5, true)", "had(1, 2, true)",
+            "had(3, 4, true)", "lasts(0) = 1", "lasts(1) = 1");
         for (String what : new String[] {"-1", "2", MIN, MAX}) {
             Boundary.test("-5 BEYOND", Boundary.rich(), "lasts(" + what + ") ! -5");
             Boundary.test("-5 BEYOND", "lasts(" + what + ") ! -5");
@@ -105,6 +108,7 @@ public final class OutcomesBoundaryTest {
         Boundary.test(sentence, Boundary.plain(3, 1), "leftOut() = 0");
         Boundary.test(sentence, THREE_HAD, "leftOut() = 0");
         Boundary.test(sentence, Boundary.only(10, 809), "leftOut() = 8");
+        Boundary.test(sentence, Boundary.only(5, 102, 103), "leftOut() = 1");
         Boundary.test(sentence, Boundary.only(10, 9, 109, 209, 309, 409, 509, 609, 709, 809), "leftOut() = 9");
         Boundary.test(sentence, Boundary.only(10, 1, 2, 708, 709), "leftOut() = 0");
         Boundary.test(sentence, Boundary.only(10, 1, 708, 709, 304, 305), "leftOut() = 3");
@@ -385,7 +389,7 @@ public final class OutcomesBoundaryTest {
         Boundary.test("a ROW, for each GUEST bits", Boundary.plain(6, 2), "numbers(0, 0, 2 1 -1 127)", "told(0, 0) = 0",
             "told(0, 1) = -1");
         Boundary.test("a ROW, for each GUEST bits", "numbers(0, 0, -1)", "told(0, 0) = 0");
-        Boundary.test(LOWEST_BITS, Boundary.plain(6, 2), "numbers(0, 3, 0x100000002 0x4000000000000000)",
+        Boundary.test("(As ints: of longs the lowest 32 bits.)", Boundary.plain(6, 2), "numbers(0, 3, 0x100000002 0x4000000000000000)",
             "told(0, 0) = 1", "told(0, 1) = 0");
         Boundary.test("what is put in keeps its lowest bits", Boundary.plain(6, 2), "numbers(0, 0, 258 256)",
             "told(0, 0) = 1");
@@ -464,6 +468,12 @@ public final class OutcomesBoundaryTest {
         // 2 and 5 lie in one layer; 104 CROSSES 2 alone, 207 CROSSES 5 and 104, 306 CROSSES 5, 104 and no more
         Boundary.test(first, Boundary.only(8, 2, 5, 104, 207), "layers() = 3");
         Boundary.test(first, Boundary.only(8, 3, 105, 207, 406), "layers() = 3");
+        // both CROSS the first PAIR, not each other
+        Boundary.test(first, Boundary.only(5, 2, 103, 104), "layers() = 2");
+        Boundary.test(NOTHING_CHANGED, Boundary.plain(12, 10), "rounds() = 13", "layers() = 8", "layers() = 8",
+            "fewest() ! -7", "layers() = 8");
+        Boundary.test(first, Boundary.only(4, 2, 103), "layers() = 2", "change(0, 1)", "layers() = 1", "change(0, 1)",
+            "layers() = 2");
         Boundary.test("(a GUEST may be in several of one layer)", Boundary.only(10, STAR), "layers() = 1");
         Boundary.test("not, if a HOST is among the four", "guest(6, 0, 0)", "guest(0, 1, 0)", "guest(0, 2, 0)",
             "guest(0, 3, 0)", "layers() = 1");

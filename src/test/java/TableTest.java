@@ -273,11 +273,9 @@ public final class TableTest {
 
     /** Its word is at FAULT, but only where the whole word is there. */
     private static void faultsOfWordsThatCantBeTold() {
-        NoArmsCrossed x = Due.plain(8, 1);
-        faultsOfWordThatCantBeTold(x, "seats", "5");
-        NoArmsCrossed full = Due.plain(12, 10);
-        faultsOfWordThatCantBeTold(full, "seats", "12");
-        faultsOfWordThatCantBeTold(full, "guest", "0 10 0");
+        faultsOfWordThatCantBeTold(8, 1, "seats", "5");
+        faultsOfWordThatCantBeTold(12, 10, "seats", "12");
+        faultsOfWordThatCantBeTold(12, 10, "guest", "0 10 0");
         NoArmsCrossed nine = Due.plain(12, 9);
         faultAt(nine, "guest 0 9 0;g", 13);
         faultAt(nine, "guest 0 9 0;guess", 16);
@@ -289,23 +287,23 @@ public final class TableTest {
         faultAt("guest 0 0 0;seats x", 12);
     }
 
-    private static void faultsOfWordThatCantBeTold(NoArmsCrossed x, String word, String numbers) {
+    private static void faultsOfWordThatCantBeTold(int seats, int guests, String word, String numbers) {
         for (String ahead : new String[] {"", "eyes 1;"}) {
             int at = ahead.length();
             for (int letters = 1; letters < word.length(); letters++) {
+                NoArmsCrossed x = Due.plain(seats, guests);
                 String part = ahead + word.substring(0, letters);
                 faultAt(x, part, at + letters);
                 faultAt(x, part + "x", at + letters);
                 faultAt(x, part + " " + numbers, at + letters);
+                Due.is("EYES", x.status(5), 0);
             }
-            faultAt(x, ahead + word, at);
-            faultAt(x, ahead + word + "x", at);
-            faultAt(x, ahead + word + " ", at);
-            faultAt(x, ahead + word + " x", at);
-            faultAt(x, ahead + word + " " + numbers, at);
-            faultAt(x, ahead + word + " " + numbers + ";eyes 1", at);
+            for (String behind : new String[] {"", "x", " ", " x", " " + numbers, " " + numbers + ";eyes 1"}) {
+                NoArmsCrossed x = Due.plain(seats, guests);
+                faultAt(x, ahead + word + behind, at);
+                Due.is("EYES", x.status(5), 0);
+            }
         }
-        Due.is("EYES", x.status(5), 0);
     }
 
     private static void faultsTellNothing() {
