@@ -15,14 +15,6 @@ public final class ClinksTest {
         Due.end("ClinksTest");
     }
 
-    private static void pairRefused(NoArmsCrossed x, String call, java.util.function.IntBinaryOperator run) {
-        int n = x.status(0);
-        Due.refused(x, call + " with none such", () -> run.applyAsInt(0, n), -1);
-        Due.refused(x, call + " of none such", () -> run.applyAsInt(-1, 0), -1);
-        Due.refused(x, call + " of the same none", () -> run.applyAsInt(n, n), -1);
-        Due.refused(x, call + " of the same", () -> run.applyAsInt(1, 1), -6);
-    }
-
     /** Promise 17. */
     private static void far() {
         NoArmsCrossed x = new NoArmsCrossed();
@@ -36,7 +28,7 @@ public final class ClinksTest {
             Due.fine(x, "far(" + d[0] + ", " + d[1] + ")", () -> x.far(d[0], d[1]), d[2]);
             Due.is("far the other way about", x.far(d[1], d[0]), d[2]);
         }
-        pairRefused(x, "far", x::far);
+        Due.pairRefused(x, "far", x::far);
         NoArmsCrossed odd = Due.plain(3, 3);
         Due.is("far(0, 2) of 3 SEATS", odd.far(0, 2), 1);
     }
@@ -59,7 +51,7 @@ public final class ClinksTest {
         Due.is("may, BARRED", x.may(5, 4), 0);
         x.had(0, 1, true);
         Due.is("may, HAD", x.may(0, 1), 1);
-        pairRefused(x, "may", x::may);
+        Due.pairRefused(x, "may", x::may);
     }
 
     private static NoArmsCrossed sevenKinds() {
@@ -106,7 +98,7 @@ public final class ClinksTest {
         for (int[] d : due) {
             Due.fine(x, "takes with EYES", () -> x.takes(d[0], d[1]), 2 * d[2]);
         }
-        pairRefused(x, "takes", x::takes);
+        Due.pairRefused(x, "takes", x::takes);
     }
 
     /** Promise 20. */
@@ -173,21 +165,6 @@ public final class ClinksTest {
         Due.is("the last of ten", full.wanted(44), 809);
     }
 
-    /** Only these PAIRS are WANTED of so many plain GUESTS in SEATS 0, 1, .. */
-    private static NoArmsCrossed only(int guests, int... pairs) {
-        NoArmsCrossed x = Due.plain(Math.max(3, guests), guests);
-        for (int p = 0; p < guests; p++) {
-            for (int q = p + 1; q < guests; q++) {
-                boolean is = false;
-                for (int pair : pairs) {
-                    is |= pair == 100 * p + q;
-                }
-                x.had(p, q, !is);
-            }
-        }
-        return x;
-    }
-
     /** Promise 22. */
     private static void most() {
         NoArmsCrossed x = Due.plain(4, 4);
@@ -196,12 +173,12 @@ public final class ClinksTest {
         list(x, "most", x::most, 3, 102);
         x.change(2, 3);
         list(x, "most", x::most, 2, 103);
-        NoArmsCrossed all = only(6, 3, 14, 25);
+        NoArmsCrossed all = Due.only(6, 3, 14, 25);
         list(all, "most", all::most, 3);
-        NoArmsCrossed crossing = only(6, 3, 104, 205);
+        NoArmsCrossed crossing = Due.only(6, 3, 104, 205);
         list(crossing, "most", crossing::most, 3);
         // the first PAIR leaves room for one other, two later ones and their third fit together
-        NoArmsCrossed later = only(6, 2, 5, 104, 203);
+        NoArmsCrossed later = Due.only(6, 2, 5, 104, 203);
         list(later, "most", later::most, 5, 104, 203);
         later.goes(45);
         list(later, "most of nothing any more", later::most);
@@ -234,7 +211,7 @@ public final class ClinksTest {
             hosts.guest(6, g, 0);
         }
         Due.fine(hosts, "ways of ten HOSTS", hosts::ways, 945);
-        NoArmsCrossed one = only(6, 3, 104, 205);
+        NoArmsCrossed one = Due.only(6, 3, 104, 205);
         Due.fine(one, "ways of three that all cross", one::ways, 3);
         one.bar(0, 3, true);
         one.goes(45);
@@ -249,15 +226,15 @@ public final class ClinksTest {
         Due.fine(x, "rounds of four again", x::rounds, 4);
         NoArmsCrossed none = new NoArmsCrossed();
         Due.fine(none, "rounds of none", none::rounds, 0);
-        NoArmsCrossed greedy = only(6, 2, 105, 203, 204, 304, 405);
+        NoArmsCrossed greedy = Due.only(6, 2, 105, 203, 204, 304, 405);
         Due.fine(greedy, "rounds by always the most", greedy::rounds, 4);
-        NoArmsCrossed crossing = only(6, 3, 104, 205);
+        NoArmsCrossed crossing = Due.only(6, 3, 104, 205);
         Due.fine(crossing, "rounds of three that all cross", crossing::rounds, 3);
     }
 
     /** Promise 25. */
     private static void roundOf() {
-        NoArmsCrossed x = only(6, 2, 105, 203, 204, 304, 405);
+        NoArmsCrossed x = Due.only(6, 2, 105, 203, 204, 304, 405);
         int[][] due = {{2, 304}, {105, 203}, {204}, {405}};
         for (int r = 0; r < due.length; r++) {
             int round = r;

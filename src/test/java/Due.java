@@ -38,6 +38,15 @@ final class Due {
         }
     }
 
+    /** What each call with two GUESTS refuses, GUEST 1 being there. */
+    static void pairRefused(NoArmsCrossed x, String call, java.util.function.IntBinaryOperator run) {
+        int n = x.status(0);
+        refused(x, call + " with none such", () -> run.applyAsInt(0, n), -1);
+        refused(x, call + " of none such", () -> run.applyAsInt(-1, 0), -1);
+        refused(x, call + " of the same none", () -> run.applyAsInt(n, n), -1);
+        refused(x, call + " of the same", () -> run.applyAsInt(1, 1), -6);
+    }
+
     private static int[] refusals(NoArmsCrossed x) {
         int[] counts = new int[8];
         for (int no = 1; no <= 7; no++) {
@@ -67,6 +76,21 @@ final class Due {
         is("seats(" + seats + ")", x.seats(seats), 8);
         for (int g = 0; g < guests; g++) {
             is("guest(0, " + g + ", 0)", x.guest(0, g, 0), g);
+        }
+        return x;
+    }
+
+    /** Only these PAIRS are WANTED of so many plain GUESTS in SEATS 0, 1, .. */
+    static NoArmsCrossed only(int guests, int... pairs) {
+        NoArmsCrossed x = plain(Math.max(3, guests), guests);
+        for (int p = 0; p < guests; p++) {
+            for (int q = p + 1; q < guests; q++) {
+                boolean is = false;
+                for (int pair : pairs) {
+                    is |= pair == 100 * p + q;
+                }
+                x.had(p, q, !is);
+            }
         }
         return x;
     }

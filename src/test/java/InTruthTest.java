@@ -18,14 +18,6 @@ public final class InTruthTest {
         Due.end("InTruthTest");
     }
 
-    private static void pairRefused(NoArmsCrossed x, String call, java.util.function.IntBinaryOperator run) {
-        int n = x.status(0);
-        Due.refused(x, call + " with none such", () -> run.applyAsInt(0, n), -1);
-        Due.refused(x, call + " of none such", () -> run.applyAsInt(-1, 0), -1);
-        Due.refused(x, call + " of the same none", () -> run.applyAsInt(n, n), -1);
-        Due.refused(x, call + " of the same", () -> run.applyAsInt(1, 1), -6);
-    }
-
     private static void counts(NoArmsCrossed x, String when, int had, int clinks, int seconds) {
         Due.is("PAIRS that have HAD it " + when, x.status(2), had);
         Due.is("CLINKS " + when, x.status(3), clinks);
@@ -45,7 +37,7 @@ public final class InTruthTest {
         x.eyes(1);
         Due.fine(x, "clink(2, 1)", () -> x.clink(2, 1), 3);
         counts(x, "after one with EYES", 3, 3, 8);
-        pairRefused(x, "clink", x::clink);
+        Due.pairRefused(x, "clink", x::clink);
         Due.refused(x, "clink once more", () -> x.clink(0, 2), -6);
         Due.refused(x, "clink with a SOBER one", () -> x.clink(0, 4), -6);
         x.bar(0, 1, true);
@@ -86,7 +78,7 @@ public final class InTruthTest {
         Due.is("SEAT of 2", x.guestOf(2, 1), 0);
         Due.is("SEAT of 1", x.guestOf(1, 1), 1);
         Due.is("HAD goes with the GUEST", x.guestOf(0, 3), 2);
-        pairRefused(x, "change", x::change);
+        Due.pairRefused(x, "change", x::change);
         counts(x, "after a change", 1, 0, 0);
     }
 

@@ -19,24 +19,9 @@ public final class OutcomesTest {
         Due.end("OutcomesTest");
     }
 
-    /** Only these PAIRS are WANTED of so many plain GUESTS in SEATS 0, 1, .. */
-    private static NoArmsCrossed only(int guests, int... pairs) {
-        NoArmsCrossed x = Due.plain(Math.max(3, guests), guests);
-        for (int p = 0; p < guests; p++) {
-            for (int q = p + 1; q < guests; q++) {
-                boolean is = false;
-                for (int pair : pairs) {
-                    is |= pair == 100 * p + q;
-                }
-                x.had(p, q, !is);
-            }
-        }
-        return x;
-    }
-
     /** Promise 26. */
     private static void fewest() {
-        NoArmsCrossed x = only(6, 2, 105, 203, 204, 304, 405);
+        NoArmsCrossed x = Due.only(6, 2, 105, 203, 204, 304, 405);
         Due.fine(x, "fewer than by always the most", x::fewest, 3);
         NoArmsCrossed none = new NoArmsCrossed();
         Due.fine(none, "fewest of nothing", none::fewest, 0);
@@ -52,21 +37,21 @@ public final class OutcomesTest {
         Due.refused(six, "fewest of 11 PAIRS", six::fewest, -7);
         six.had(0, 5, true);
         Due.fine(six, "fewest of 10 PAIRS of six", six::fewest, 5);
-        NoArmsCrossed apart = only(6, 2, 103, 405);
+        NoArmsCrossed apart = Due.only(6, 2, 103, 405);
         Due.fine(apart, "fewest of two that cross and one apart", apart::fewest, 2);
-        NoArmsCrossed one = only(2, 1);
+        NoArmsCrossed one = Due.only(2, 1);
         Due.fine(one, "fewest of one PAIR", one::fewest, 1);
-        NoArmsCrossed star = only(10, 1, 2, 3, 4, 5, 6, 7, 8, 9);
+        NoArmsCrossed star = Due.only(10, 1, 2, 3, 4, 5, 6, 7, 8, 9);
         Due.fine(star, "fewest of a star", star::fewest, 9);
     }
 
     /** Promise 27. */
     private static void bound() {
-        NoArmsCrossed x = only(6, 2, 105, 203, 204, 405);
+        NoArmsCrossed x = Due.only(6, 2, 105, 203, 204, 405);
         Due.fine(x, "bound", x::bound, 3);
         x.had(2, 3, true);
         Due.fine(x, "bound", x::bound, 2);
-        NoArmsCrossed star = only(10, 1, 2, 3, 4, 5, 6, 7, 8, 9);
+        NoArmsCrossed star = Due.only(10, 1, 2, 3, 4, 5, 6, 7, 8, 9);
         Due.fine(star, "bound of a star", star::bound, 9);
         NoArmsCrossed none = new NoArmsCrossed();
         Due.fine(none, "bound of none", none::bound, 0);
@@ -101,7 +86,7 @@ public final class OutcomesTest {
 
     /** Promise 29. */
     private static void leftOut() {
-        NoArmsCrossed x = only(5, 1, 102, 203, 304);
+        NoArmsCrossed x = Due.only(5, 1, 102, 203, 304);
         Due.fine(x, "leftOut, the first of several", x::leftOut, 1);
         x.had(0, 1, true);
         Due.fine(x, "leftOut", x::leftOut, 2);
@@ -111,7 +96,7 @@ public final class OutcomesTest {
         Due.fine(x, "leftOut", x::leftOut, 2);
         x.had(4, 0, false);
         Due.fine(x, "leftOut", x::leftOut, 4);
-        NoArmsCrossed nothing = only(3);
+        NoArmsCrossed nothing = Due.only(3);
         Due.fine(nothing, "leftOut, nothing WANTED", nothing::leftOut, 0);
         NoArmsCrossed none = new NoArmsCrossed();
         Due.refused(none, "leftOut of none", none::leftOut, -5);
@@ -134,11 +119,11 @@ public final class OutcomesTest {
 
     /** Promise 31. */
     private static void bestChange() {
-        NoArmsCrossed two = only(4, 2, 103);
+        NoArmsCrossed two = Due.only(4, 2, 103);
         Due.fine(two, "bestChange, the first of several", two::bestChange, 1);
         Due.is("nothing is changed", two.guestOf(0, 1), 0);
         // 0 1 makes it 2, 0 2 makes it 3
-        NoArmsCrossed three = only(6, 3, 104, 205);
+        NoArmsCrossed three = Due.only(6, 3, 104, 205);
         Due.fine(three, "bestChange, not the first that is greater", three::bestChange, 2);
         NoArmsCrossed four = Due.plain(8, 4);
         Due.fine(four, "bestChange, none is greater", four::bestChange, -1);
@@ -330,14 +315,14 @@ public final class OutcomesTest {
         NoArmsCrossed four = Due.plain(8, 4);
         Due.fine(four, "layers of four", four::layers, 2);
         Due.is("nothing is changed", four.wanted(-1), 6);
-        NoArmsCrossed star = only(10, 1, 2, 3, 4, 5, 6, 7, 8, 9);
+        NoArmsCrossed star = Due.only(10, 1, 2, 3, 4, 5, 6, 7, 8, 9);
         Due.fine(star, "a GUEST may be in several of one layer", star::layers, 1);
-        NoArmsCrossed three = only(6, 3, 104, 205);
+        NoArmsCrossed three = Due.only(6, 3, 104, 205);
         Due.fine(three, "layers of three that all cross", three::layers, 3);
         three.change(0, 2);
         Due.fine(three, "layers when none cross any more", three::layers, 1);
         // each into the first: 0 2 and 0 5 in one, so 1 4 (crosses 0 2) and 2 7 (0 5, 1 4) make two more
-        NoArmsCrossed first = only(8, 2, 5, 104, 207);
+        NoArmsCrossed first = Due.only(8, 2, 5, 104, 207);
         Due.fine(first, "layers", first::layers, 3);
         NoArmsCrossed lefty = new NoArmsCrossed();
         for (int g = 0; g < 4; g++) {

@@ -89,7 +89,7 @@ public final class TableTest {
         Due.fine(x, "bar(0, 2, false)", () -> x.bar(0, 2, false), 1);
         Due.is("may(2, 0)", x.may(2, 0), 1);
         Due.is("had by bar", x.status(2), 0);
-        pairRefused(x, "bar", (p, q) -> x.bar(p, q, true));
+        Due.pairRefused(x, "bar", (p, q) -> x.bar(p, q, true));
     }
 
     /** Promise 13. */
@@ -107,14 +107,7 @@ public final class TableTest {
         Due.is("PAIRS that have HAD it", x.status(2), 2);
         Due.fine(x, "had(1, 2, false)", () -> x.had(1, 2, false), 1);
         Due.is("PAIRS that have HAD it", x.status(2), 1);
-        pairRefused(x, "had", (p, q) -> x.had(p, q, true));
-    }
-
-    private static void pairRefused(NoArmsCrossed x, String call, java.util.function.IntBinaryOperator run) {
-        Due.refused(x, call + "(0, 3)", () -> run.applyAsInt(0, 3), -1);
-        Due.refused(x, call + "(3, 3)", () -> run.applyAsInt(3, 3), -1);
-        Due.refused(x, call + "(-1, 0)", () -> run.applyAsInt(-1, 0), -1);
-        Due.refused(x, call + "(1, 1)", () -> run.applyAsInt(1, 1), -6);
+        Due.pairRefused(x, "had", (p, q) -> x.had(p, q, true));
     }
 
     /** Promise 14. */
