@@ -7,7 +7,8 @@
 public final class NoArmsCrossed {
     public static final int NONE = -1;
 
-    // REFUSALS
+    // REFUSALS, and that there is none
+    private static final int FINE = 0;
     private static final int NOBODY = -1;
     private static final int OTHER = -2;
     private static final int NOTHING = -3;
@@ -93,7 +94,7 @@ public final class NoArmsCrossed {
 
     public int set(int s, int i, long v) {
         int no = refusalOfRow(s);
-        if (no != 0) {
+        if (no != FINE) {
             return refuse(no);
         }
         if (!shelves[s].has(i)) {
@@ -217,7 +218,7 @@ public final class NoArmsCrossed {
 
     public int bar(int guest, int other, boolean is) {
         int no = refusalOfPair(guest, other);
-        if (no != 0) {
+        if (no != FINE) {
             return refuse(no);
         }
         return now.mark(now.barredBits, guest, other, is) ? 1 : 0;
@@ -225,7 +226,7 @@ public final class NoArmsCrossed {
 
     public int had(int guest, int other, boolean is) {
         int no = refusalOfPair(guest, other);
-        if (no != 0) {
+        if (no != FINE) {
             return refuse(no);
         }
         return now.mark(now.hadBits, guest, other, is) ? 1 : 0;
@@ -242,7 +243,7 @@ public final class NoArmsCrossed {
 
     public int table(int s) {
         int no = refusalOfRow(s);
-        if (no != 0) {
+        if (no != FINE) {
             return refuse(no);
         }
         draft.takeOver(now);
@@ -264,12 +265,12 @@ public final class NoArmsCrossed {
 
     public int far(int guest, int other) {
         int no = refusalOfPair(guest, other);
-        return no != 0 ? refuse(no) : now.distance(guest, other);
+        return no != FINE ? refuse(no) : now.distance(guest, other);
     }
 
     public int may(int guest, int other) {
         int no = refusalOfPair(guest, other);
-        if (no != 0) {
+        if (no != FINE) {
             return refuse(no);
         }
         return now.mayClink(guest, other) ? 1 : 0;
@@ -277,7 +278,7 @@ public final class NoArmsCrossed {
 
     public int takes(int guest, int other) {
         int no = refusalOfPair(guest, other);
-        return no != 0 ? refuse(no) : now.secondsOf(guest, other);
+        return no != FINE ? refuse(no) : now.secondsOf(guest, other);
     }
 
     public int cross(int guest, int other, int third, int fourth) {
@@ -300,7 +301,7 @@ public final class NoArmsCrossed {
 
     public int most(int i) {
         plan.draw(now);
-        return toldOfSet(plan.largest(plan.all(), 0), i);
+        return pairOrCount(plan.largest(plan.all(), 0), i);
     }
 
     public int ways() {
@@ -321,7 +322,7 @@ public final class NoArmsCrossed {
         if (plan.makeRounds(r + 1) <= r) {
             return refuse(BEYOND);
         }
-        return toldOfSet(plan.groups[r], i);
+        return pairOrCount(plan.groups[r], i);
     }
 
     // ---- WHAT COMES OF IT
@@ -395,7 +396,7 @@ public final class NoArmsCrossed {
         if (!isKind(kind)) {
             return refuse(NOBODY);
         }
-        if (now.freeBits() == 0) {
+        if (now.freeSeatBits() == 0) {
             return refuse(BEYOND);
         }
         if (!isAmount(a)) {
@@ -409,31 +410,31 @@ public final class NoArmsCrossed {
 
     public int judge(int s, int n) {
         int no = refusalOfEvening(s, n);
-        if (no != 0) {
+        if (no != FINE) {
             return refuseLower(no);
         }
         plan.draw(now);
-        return evening.hear(shelves[s], n, plan);
+        return evening.firstWrong(shelves[s], n, plan);
     }
 
     public int behind(int s, int n, int what) {
         int no = refusalOfEvening(s, n);
-        if ((no == 0 || no == WRONG) && what != 0 && what != 1) {
+        if ((no == FINE || no == WRONG) && what != 0 && what != 1) {
             no = BEYOND;
         }
-        if (no != 0) {
+        if (no != FINE) {
             return refuse(no);
         }
         plan.draw(now);
-        if (evening.hear(shelves[s], n, plan) != NONE) {
+        if (evening.firstWrong(shelves[s], n, plan) != NONE) {
             return refuse(WRONG);
         }
-        return what == 0 ? Long.bitCount(evening.left) : evening.parts;
+        return what == 0 ? Long.bitCount(evening.wantedBehind) : evening.roundCount;
     }
 
     public int told(int s, int what) {
         int no = refusalOfRow(s);
-        if (no != 0) {
+        if (no != FINE) {
             return refuseLower(no);
         }
         Shelf row = shelves[s];
@@ -445,7 +446,7 @@ public final class NoArmsCrossed {
                 return refuseLower(WRONG);
             }
         }
-        return what == 0 ? disputed(row, NONE) : liar(row);
+        return what == 0 ? disputedBut(row, NONE) : liar(row);
     }
 
     public int layers() {
@@ -457,7 +458,7 @@ public final class NoArmsCrossed {
 
     public int clink(int guest, int other) {
         int no = refusalOfPair(guest, other);
-        if (no != 0) {
+        if (no != FINE) {
             return refuse(no);
         }
         if (!now.isWanted(guest, other)) {
@@ -482,7 +483,7 @@ public final class NoArmsCrossed {
 
     public int change(int guest, int other) {
         int no = refusalOfPair(guest, other);
-        if (no != 0) {
+        if (no != FINE) {
             return refuse(no);
         }
         now.swap(guest, other);
@@ -601,7 +602,6 @@ public final class NoArmsCrossed {
         return 100 * lesser + other;
     }
 
-    /** 0: the SHELF holds a ROW. */
     private int refusalOfRow(int s) {
         if (!isShelf(s)) {
             return NOBODY;
@@ -609,20 +609,19 @@ public final class NoArmsCrossed {
         if (shelves[s].holdsGuest()) {
             return OTHER;
         }
-        return shelves[s].isEmpty() ? NOTHING : 0;
+        return shelves[s].isEmpty() ? NOTHING : FINE;
     }
 
-    /** 0: there are both GUESTS, and they are two. */
     private int refusalOfPair(int guest, int other) {
         if (!now.exists(guest) || !now.exists(other)) {
             return NOBODY;
         }
-        return guest == other ? WRONG : 0;
+        return guest == other ? WRONG : FINE;
     }
 
     private int refusalOfEvening(int s, int n) {
         int no = refusalOfRow(s);
-        if (no != 0) {
+        if (no != FINE) {
             return no;
         }
         if (n < 0) {
@@ -631,7 +630,7 @@ public final class NoArmsCrossed {
         if (n > shelves[s].length) {
             return BEYOND;
         }
-        return n > EVENING_MOST ? WRONG : 0;
+        return n > EVENING_MOST ? WRONG : FINE;
     }
 
     private int wordsOf(int guest, int kind) {
@@ -651,8 +650,7 @@ public final class NoArmsCrossed {
         }
     }
 
-    /** The i-th PAIR of a set of the plan, or how many it has. */
-    private int toldOfSet(long pairs, int i) {
+    private int pairOrCount(long pairs, int i) {
         if (i == NONE) {
             return Long.bitCount(pairs);
         }
@@ -677,8 +675,7 @@ public final class NoArmsCrossed {
         return best;
     }
 
-    /** How many PAIRS one says and the other doesn't, those of the GUEST left out not counted. */
-    private int disputed(Shelf row, int leftOut) {
+    private int disputedBut(Shelf row, int leftOut) {
         int pairs = 0;
         for (int p = 0; p < now.count; p++) {
             for (int q = p + 1; q < now.count; q++) {
@@ -693,11 +690,11 @@ public final class NoArmsCrossed {
     }
 
     private int liar(Shelf row) {
-        if (disputed(row, NONE) == 0) {
+        if (disputedBut(row, NONE) == 0) {
             return NONE;
         }
         for (int g = 0; g < now.count; g++) {
-            if (disputed(row, g) == 0) {
+            if (disputedBut(row, g) == 0) {
                 return g;
             }
         }
@@ -738,10 +735,10 @@ public final class NoArmsCrossed {
         }
     }
 
-    /** One SHELF, with room for the greatest ROW. */
+    /** Made with room for the greatest ROW, so that row() makes nothing new. */
     private static final class Shelf {
         final long[] elements = new long[ELEMENTS_MOST];
-        /** NONE, the GUEST's number, or ROW_HELD and the SORT. */
+        /** NONE, the GUEST's number, or ROW_HELD and the SORT: as holds() answers it. */
         int held = NONE;
         int length = 0;
 
@@ -794,7 +791,7 @@ public final class NoArmsCrossed {
             }
         }
 
-        /** The element as an int; 0, which is no letter, behind the last. */
+        /** Behind the last 0, which is no letter: a text that ends too early stops the Reader at its end. */
         int number(int i) {
             return has(i) ? (int) elements[i] : 0;
         }
@@ -848,8 +845,7 @@ public final class NoArmsCrossed {
             return guestBits() & ~bit(guest);
         }
 
-        /** The SEATS in which nobody sits, as bits. */
-        int freeBits() {
+        int freeSeatBits() {
             int free = bit(size) - 1;
             for (int g = 0; g < count; g++) {
                 free &= ~bit(places[g]);
@@ -858,7 +854,7 @@ public final class NoArmsCrossed {
         }
 
         boolean isFree(int seat) {
-            return seat >= 0 && seat < size && (freeBits() >> seat & 1) != 0;
+            return seat >= 0 && seat < size && (freeSeatBits() >> seat & 1) != 0;
         }
 
         void add(int kind, int seat, int a) {
@@ -1017,8 +1013,7 @@ public final class NoArmsCrossed {
     private static final class Plan {
         final int[] lesser = new int[PAIRS_MOST];
         final int[] other = new int[PAIRS_MOST];
-        /** How long each takes. */
-        final int[] spans = new int[PAIRS_MOST];
+        final int[] pairSeconds = new int[PAIRS_MOST];
         /** Of each PAIR those that it CROSSES. */
         final long[] crossed = new long[PAIRS_MOST];
         /** Of each PAIR those that can't be AT ONCE with it. */
@@ -1048,7 +1043,7 @@ public final class NoArmsCrossed {
             }
             lesser[count] = p;
             other[count] = q;
-            spans[count] = table.secondsOf(p, q);
+            pairSeconds[count] = table.secondsOf(p, q);
             crossed[count] = 0;
             barring[count] = 0;
             for (int i = 0; i < count; i++) {
@@ -1084,8 +1079,7 @@ public final class NoArmsCrossed {
             return bit(lesser[p]) | bit(other[p]);
         }
 
-        /** The PAIR told by its code, if it is in the set; else NONE. */
-        int pairTold(long pairs, int code) {
+        int pairOfCode(long pairs, int code) {
             for (int p = 0; p < count; p++) {
                 if (isIn(pairs, p) && codeOf(p) == code) {
                     return p;
@@ -1094,7 +1088,6 @@ public final class NoArmsCrossed {
             return NONE;
         }
 
-        /** The i-th of a set; NONE: none such. */
         int pairAt(long pairs, int i) {
             int ahead = 0;
             for (int p = 0; p < count; p++) {
@@ -1116,7 +1109,7 @@ public final class NoArmsCrossed {
             return guests;
         }
 
-        /** The MOST of these PAIRS, if it has more than so many; mostSize is how many it has. */
+        /** Only a set of more than so many PAIRS is sought: bestChange() needs none that isn't better. */
         long largest(long pairs, int above) {
             mostSize = above;
             mostPairs = 0;
@@ -1154,7 +1147,6 @@ public final class NoArmsCrossed {
             return countSets(this, 0, all(), guestsIn(all()), 0);
         }
 
-        /** How many sets go on from here to as many PAIRS as the MOST. */
         private static int countSets(Plan plan, int from, long open, int free, int size) {
             if (size >= plan.mostSize || size >= AT_ONCE_MOST) {
                 return 1;
@@ -1172,7 +1164,7 @@ public final class NoArmsCrossed {
             return sets;
         }
 
-        /** The first ROUNDS, so many at most, become the groups: how many. */
+        /** With a limit, since who asks for one ROUND needs none behind it. */
         int makeRounds(int limit) {
             long left = all();
             int made = 0;
@@ -1187,7 +1179,7 @@ public final class NoArmsCrossed {
         int longest(long pairs) {
             int seconds = 0;
             for (int p = 0; p < count; p++) {
-                seconds = isIn(pairs, p) ? Math.max(seconds, spans[p]) : seconds;
+                seconds = isIn(pairs, p) ? Math.max(seconds, pairSeconds[p]) : seconds;
             }
             return seconds;
         }
@@ -1204,7 +1196,7 @@ public final class NoArmsCrossed {
         int secondsAlone() {
             int seconds = 0;
             for (int p = 0; p < count; p++) {
-                seconds += spans[p];
+                seconds += pairSeconds[p];
             }
             return seconds;
         }
@@ -1253,27 +1245,24 @@ public final class NoArmsCrossed {
 
     /** A told evening, heard as far as it is not WRONG. */
     private static final class Evening {
-        /** What is WANTED behind it. */
-        long left = 0;
-        /** How many rounds it has. */
-        int parts = 0;
+        long wantedBehind = 0;
+        int roundCount = 0;
 
-        /** The first element that is WRONG, or NONE. */
-        int hear(Shelf row, int n, Plan plan) {
-            left = plan.all();
-            parts = n > 0 ? 1 : 0;
+        int firstWrong(Shelf row, int n, Plan plan) {
+            wantedBehind = plan.all();
+            roundCount = n > 0 ? 1 : 0;
             long round = 0;
             for (int i = 0; i < n; i++) {
                 if (row.number(i) == NONE) {
                     round = 0;
-                    parts++;
+                    roundCount++;
                 } else {
-                    int p = plan.pairTold(left, row.number(i));
+                    int p = plan.pairOfCode(wantedBehind, row.number(i));
                     if (p == NONE || (plan.barring[p] & round) != 0) {
                         return i;
                     }
                     round |= 1L << p;
-                    left &= ~(1L << p);
+                    wantedBehind &= ~(1L << p);
                 }
             }
             return NONE;
@@ -1383,7 +1372,7 @@ public final class NoArmsCrossed {
 
         private boolean readGuest(Shelf text, Table table) {
             int kind = readNumber(text, KIND_BITS);
-            int seat = kind == NONE ? NONE : readNumber(text, table.freeBits());
+            int seat = kind == NONE ? NONE : readNumber(text, table.freeSeatBits());
             int a = seat == NONE ? NONE : readNumber(text, AMOUNT_BITS);
             if (a == NONE) {
                 return false;
@@ -1413,7 +1402,7 @@ public final class NoArmsCrossed {
 
         private boolean readMove(Shelf text, Table table) {
             int guest = readNumber(text, table.guestBits());
-            int seat = guest == NONE ? NONE : readNumber(text, table.freeBits());
+            int seat = guest == NONE ? NONE : readNumber(text, table.freeSeatBits());
             if (seat == NONE) {
                 return false;
             }
